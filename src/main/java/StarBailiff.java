@@ -362,7 +362,7 @@ public final class StarBailiff {
         int start = 0;
         for (int number = 0; number < commands; number++) {
             words.findCommand(input, start);
-            int code = carryOut(words.command, words.number(0), words.number(1), words.number(2));
+            int code = carryOut(words.command, words.numbers[0], words.numbers[1], words.numbers[2]);
             if (code < 0) {
                 sky.copyFrom(past.noted());
                 return refusal.ofCommand(code, number);
@@ -437,7 +437,7 @@ public final class StarBailiff {
         Command command = Command.DAWN;
         /** Where the command that was looked for ends, or where the text has its fault. */
         int end;
-        private final int[] numbers = new int[3];
+        final int[] numbers = new int[3];
 
         int countCommands(StringBuilder text) {
             int start = 0;
@@ -465,10 +465,6 @@ public final class StarBailiff {
                 }
             }
             return false;
-        }
-
-        int number(int place) {
-            return place >= 0 && place < numbers.length ? numbers[place] : 0;
         }
 
         // A form that fails moves the end forward alone: the fault is where the last form fails.

@@ -11,6 +11,8 @@ public final class AccountsTest {
         promise41LaterAccounts();
         promise42UndoOfEachChange();
         promise42UndoOfEight();
+        promise42UndoOfEightAfterErrors();
+        promise42UndoOfRows();
         promise42UndoAndChangeAgain();
         promise42NoChanges();
         promise43Save();
@@ -94,7 +96,7 @@ public final class AccountsTest {
     }
 
     private static void promise42UndoOfEachChange() {
-        String[] changes = {"star 7 3", "roof 42", "cloud 3 0", "sight 2b", "claim 2b", "drop a", "wish 1a3", "pay 0 3",
+        String[] changes = {"star 7 3", "roof 42", "cloud 3 0", "sight 2b", "star 5 3;sight 2d", "claim 2b", "drop a", "wish 1a3", "pay 0 3",
             "redeem 0", "stay 1 9", "dawn", "pound 0", "dawn;dawn;dawn;star 1 1;roof 9"};
         for (String change : changes) {
             StarBailiff x = prepared();
@@ -122,6 +124,40 @@ public final class AccountsTest {
         }
         c.due("undo of none", x.undo(), NOTHING);
         c.due("nights", x.account(5), 3);
+    }
+
+    /** Calls that fail, and reads that are taken back, are no changes and spoil none of the eight. */
+    private static void promise42UndoOfEightAfterErrors() {
+        StarBailiff x = new StarBailiff();
+        String[] pictures = new String[10];
+        for (int night = 0; night < 10; night++) {
+            pictures[night] = Checks.picture(x);
+            x.dawn();
+        }
+        x.drop(0);
+        Checks.read(x, "dawn;roof 5;drop a");
+        x.roof(100);
+        for (int left = 7; left >= 0; left--) {
+            c.due("undo", x.undo(), left);
+            c.same("picture", Checks.picture(x), pictures[left + 2]);
+        }
+        c.due("undo of none", x.undo(), NOTHING);
+    }
+
+    /** Each number of each star, roof and wish comes back, though others stood in its place. */
+    private static void promise42UndoOfRows() {
+        StarBailiff x = prepared();
+        Checks.then(x, "wish 0b3;wish 1c4;wish 1a5;cloud 1 9;dawn;sight 0b;cloud 1 0");
+        String open = Checks.picture(x);
+        Checks.then(x, "dawn");
+        String gone = Checks.picture(x);
+        Checks.then(x, "sight 1c;wish 1c9;sight 1b;wish 1b8");
+        for (int i = 0; i < 4; i++) {
+            x.undo();
+        }
+        c.same("before the new wishes", Checks.picture(x), gone);
+        x.undo();
+        c.same("before the dawn", Checks.picture(x), open);
     }
 
     private static void promise42UndoAndChangeAgain() {
@@ -171,7 +207,6 @@ public final class AccountsTest {
         String before = Checks.picture(x);
         int changes = x.account(13);
         c.due("save", x.save(), 3);
-        c.same("picture", Checks.picture(x), before);
         c.due("changes", x.account(13), changes);
         c.due("undo after save", x.undo(), changes - 1);
         x.dawn();
@@ -179,14 +214,13 @@ public final class AccountsTest {
         c.due("restore", x.restore(), 3);
         c.same("restored", Checks.picture(x), before);
         x.dawn();
-        String later = Checks.picture(x);
         x.star(4, 1);
         String latest = Checks.picture(x);
         c.due("save in place of it", x.save(), 4);
         x.clear();
         x.restore();
         c.same("restored latest", Checks.picture(x), latest);
-        c.due("differs", later.equals(latest) ? 1 : 0, 0);
+        c.due("differs", before.equals(latest) ? 1 : 0, 0);
     }
 
     private static void promise44Restore() {
@@ -214,6 +248,15 @@ public final class AccountsTest {
         Checks.then(x, "sight 0a");
         c.due("restore once more", x.restore(), 1);
         c.due("coins as saved", x.roofOf(0, 0), 5);
+        StarBailiff full = prepared();
+        Checks.then(full, "star 5 3;roof 17;sight 4d;wish 1c6;wish 1c7");
+        String picture = Checks.picture(full);
+        full.save();
+        full.clear();
+        Checks.then(full, "star 1 3;star 2 2;star 3 1;star 4 0;roof 1;roof 2;roof 3;roof 4;roof 5;sight 4a;sight 3b");
+        Checks.then(full, "wish 4a3;wish 3b4;cloud 1 1;cloud 2 2;stay 4 4");
+        full.restore();
+        c.same("restored over others", Checks.picture(full), picture);
         StarBailiff empty = new StarBailiff();
         empty.save();
         empty.star(1, 1);

@@ -249,6 +249,17 @@ public final class AnswersTest {
         c.due("sighted under a cloud", x.cheapest(0), NOTHING);
         x.dawn();
         c.due("next night", x.cheapest(0), 2);
+        Checks.then(x, "star 9 3;claim 0f");
+        c.due("the lowest of the brightest", x.cheapest(0), 2);
+        Checks.then(x, "drop c;drop e");
+        c.due("the only one without a levy", x.cheapest(0), 5);
+        x.undo();
+        x.undo();
+        x.undo();
+        x.undo();
+        c.due("one that is gone again", x.cheapest(0), 2);
+        Checks.then(x, "sight 0a;sight 0b;sight 0c;sight 0d;sight 0e");
+        c.due("none but one that is gone again", x.cheapest(0), NOTHING);
         c.due("roof 2", x.cheapest(2), NONE);
         c.due("without stars", Checks.after("roof 5").cheapest(0), NOTHING);
         // Two of its own that are alike: the lowest.

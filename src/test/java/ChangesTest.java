@@ -9,6 +9,7 @@ public final class ChangesTest {
     public static void main(String[] args) {
         promise1NewObject();
         promise2Clear();
+        promise2ClearOfAFullSky();
         promise2ClearKeepsTheRest();
         promise3Append();
         promise4Star();
@@ -26,6 +27,7 @@ public final class ChangesTest {
         promise14Stay();
         promise15Dawn();
         promise15WishesAtDawn();
+        promise15WishesAfterThat();
         promise15NumbersAtDawn();
         errorsLeaveAllAsItWas();
         c.end();
@@ -60,6 +62,32 @@ public final class ChangesTest {
         // What comes after a clear begins as in a new object.
         Checks.then(x, "star 5 2;roof 7;sight 0a;wish 0a1");
         c.same("after a clear", Checks.picture(x), Checks.picture(Checks.after("star 5 2;roof 7;sight 0a;wish 0a1")));
+    }
+
+    /** A sky that was full of numbers is as a new one, also where the same stars, roofs and wishes come again. */
+    private static void promise2ClearOfAFullSky() {
+        StarBailiff x = Checks.after("star 9 1;star 9 0;star 8 2;roof 0;roof 16;claim 1c;sight 0a;sight 0b;wish 0a1",
+                "wish 0b2;pound 0;wish 0a3;dawn;dawn;dawn;sight 0c;sight 1a;wish 0c4;cloud 2 9;dawn;cloud 1 9;sight 0a",
+                "cloud 3 7;stay 0 7;stay 1 9;sight 0b;sight 1b;sight 1c;wish 0b5;wish 1b6");
+        c.due("granted", x.account(10), 1);
+        c.due("forfeited", x.account(11), 2);
+        c.due("age", x.wishOf(0, 3), 1);
+        c.due("clear", x.clear(), 3);
+        c.same("cleared", Checks.picture(x), Checks.picture(new StarBailiff()));
+        for (int number = 0; number < 4; number++) {
+            c.due("seen", x.seen(number), 0);
+            c.due("seenAgain", x.seenAgain(number), 0);
+            c.due("brightens", x.brightens(number), 0);
+            c.due("brightest", x.brightest(number), NONE);
+            c.due("richest", x.richest(number), NONE);
+            c.due("writeSky", x.writeSky(number), 0);
+        }
+        c.due("wouldGrant", x.wouldGrant(), 0);
+        StarBailiff y = new StarBailiff();
+        for (StarBailiff each : new StarBailiff[] {x, y}) {
+            Checks.then(each, "roof 4;roof 5;star 3 3;star 4 3;sight 0a;sight 0b;wish 0a7;wish 0a8;cloud 3 3");
+        }
+        c.same("after a clear", Checks.picture(x), Checks.picture(y));
     }
 
     private static void promise2ClearKeepsTheRest() {
@@ -360,6 +388,8 @@ public final class ChangesTest {
         c.refused(x, "pound under a stay", x.pound(0), 9, 2);
         x.sight(0, 1);
         c.refused(x, "pound under a stay with debt 10", x.pound(0), 9, 2);
+        x.stay(0, 1);
+        c.refused(x, "pound under a stay of a night", x.pound(0), 9, 1);
         x.stay(0, 0);
         c.due("pound with debt 10", x.pound(0), 2);
         c.due("impounded", x.wishOf(0, 4), 0);
@@ -479,6 +509,20 @@ public final class ChangesTest {
         c.due("forfeited of the roof", y.roofOf(0, 5), 1);
         c.due("granted of the roof", y.roofOf(0, 4), 1);
         c.due("wishes", y.account(2), 0);
+    }
+
+    /** A wish that comes after one that is gone has nothing of it. */
+    private static void promise15WishesAfterThat() {
+        StarBailiff x = Checks.after("star 9 0;roof 0;roof 0;sight 0a;wish 0a1;cloud 0 9;dawn;sight 0a;wish 0a2",
+                "cloud 0 9;dawn");
+        c.due("age of the first", x.wishOf(0, 3), 2);
+        c.due("age of the second", x.wishOf(1, 3), 1);
+        c.due("granted", x.dawn(), 2);
+        Checks.then(x, "cloud 0 3;sight 1a;wish 1a3");
+        int[] due = {1, 0, 3, 0, NOTHING};
+        for (int what = 0; what < 5; what++) {
+            c.due("what " + what, x.wishOf(0, what), due[what]);
+        }
     }
 
     private static void promise15NumbersAtDawn() {

@@ -1,7 +1,8 @@
 /** All promises together: long runs of calls, each compared with the model, some of them with wild numbers. */
 public final class ModelTest {
-    private static final int RUNS = 4000;
-    private static final int CALLS = 512;
+    private static final int RUNS = 10000;
+    // With the longest step, the undos and the whole picture at the end a run stays within the 512 calls of an object.
+    private static final int MOST_STEPS_CALLS = 210;
     private static final int[] WILD = {-1, -2, -4, 5, 8, 10, 100, Integer.MIN_VALUE, Integer.MAX_VALUE};
     private static final String[] CHANGES = {"star", "roof", "cloud", "sight", "sight", "sight", "sight", "claim", "drop",
         "wish", "wish", "wish", "pay", "pound", "redeem", "stay", "dawn"};
@@ -17,6 +18,7 @@ public final class ModelTest {
     private static StarBailiff x;
     private static Model model;
     private static int calls;
+    private static int longest;
 
     public static void main(String[] args) {
         for (int run = 0; run < RUNS; run++) {
@@ -25,10 +27,14 @@ public final class ModelTest {
             model = new Model();
             calls = 0;
             int wildness = below(3) == 0 ? 6 : 60;
-            while (calls < CALLS - 70) {
+            int end = 20 + below(MOST_STEPS_CALLS - 20);
+            while (calls < end) {
                 step(run, wildness);
             }
+            back(run);
+            picture(run);
         }
+        c.due("longest run is within 512 calls", longest <= 512 ? 1 : 0, 1);
         c.end();
     }
 
@@ -76,6 +82,41 @@ public final class ModelTest {
             case "redeem": case "brightest": return below(8);
             default: return below(5);
         }
+    }
+
+    /** Goes back in half of the runs, so that the picture at the end shows what comes back. */
+    private static void back(int run) {
+        int undos = below(2) == 0 ? 0 : 1 + below(9);
+        for (int i = 0; i < undos; i++) {
+            compare(run, "undo", 0, 0, 0);
+        }
+        if (below(6) == 0) {
+            compare(run, "restore", 0, 0, 0);
+        }
+    }
+
+    private static void picture(int run) {
+        for (int number = 0; number < 8; number++) {
+            for (int what = 0; what < 6; what++) {
+                compare(run, "starOf", number, what, 0);
+                compare(run, "wishOf", number, what, 0);
+            }
+        }
+        for (int roof = 0; roof < 5; roof++) {
+            for (int what = 0; what < 9; what++) {
+                compare(run, "roofOf", roof, what, 0);
+            }
+            for (String name : new String[] {"debt", "debtAgain", "could", "couldAgain", "cheapest", "richest"}) {
+                compare(run, name, roof, 0, 0);
+            }
+        }
+        for (int sector = 0; sector < 4; sector++) {
+            compare(run, "cloudOf", sector, 0, 0);
+        }
+        for (int what = 0; what < 14; what++) {
+            compare(run, "account", what, 0, 0);
+        }
+        longest = Math.max(longest, calls);
     }
 
     private static void text(int run, int wildness) {
