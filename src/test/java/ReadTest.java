@@ -129,12 +129,6 @@ public final class ReadTest {
         c.due("fault of an empty one", x.fault(), 0);
     }
 
-    private static void faults(String text, int position) {
-        StarBailiff x = new StarBailiff();
-        c.due("'" + text + "'", Checks.read(x, text), BAD);
-        c.due("fault of '" + text + "'", x.fault(), position);
-    }
-
     /** Each text that is cut short, or goes on with a character that cannot stand there, faults there. */
     private static void promise17Words() {
         String[] whole = {"star 1 2", "roof 0", "cloud 3 4", "sight 0a", "claim 1b", "drop c", "wish 0d5", "pay 0 1",
@@ -142,70 +136,70 @@ public final class ReadTest {
         for (String text : whole) {
             for (int length = 0; length < text.length(); length++) {
                 String cut = text.substring(0, length);
-                faults(cut, length);
-                faults("dawn;" + cut, 5 + length);
-                faults(cut + "!", length);
-                faults(cut + ";" + text, length);
-                faults(cut + "X" + text.substring(length + 1), length);
+                c.faulty(cut, length);
+                c.faulty("dawn;" + cut, 5 + length);
+                c.faulty(cut + "!", length);
+                c.faulty(cut + ";" + text, length);
+                c.faulty(cut + "X" + text.substring(length + 1), length);
             }
-            faults(text + " ", text.length());
-            faults(text + "a", text.length());
-            faults(text + ",dawn", text.length());
-            faults(text + ";", text.length() + 1);
-            faults(text + ";;", text.length() + 1);
-            faults(text + "; dawn", text.length() + 1);
+            c.faulty(text + " ", text.length());
+            c.faulty(text + "a", text.length());
+            c.faulty(text + ",dawn", text.length());
+            c.faulty(text + ";", text.length() + 1);
+            c.faulty(text + ";;", text.length() + 1);
+            c.faulty(text + "; dawn", text.length() + 1);
         }
     }
 
     private static void promise17Places() {
-        faults("stat 1 1", 3);
-        faults("rood 1", 3);
-        faults("clod", 3);
-        faults("claud 1 2", 3);
-        faults("dr0p a", 2);
-        faults("dap", 2);
-        faults("pat", 2);
-        faults("poy 1", 2);
-        faults("sta", 3);
-        faults("s", 1);
-        faults("sx", 1);
-        faults("i", 0);
-        faults("star 1", 6);
-        faults("star a 1", 5);
-        faults("star 10 1", 6);
-        faults("star 1 10", 8);
-        faults("star  1 1", 5);
-        faults("roof 123", 7);
-        faults("roof 1 2", 6);
-        faults("roof a", 5);
-        faults("pay 0 123", 8);
-        faults("pay 01 2", 5);
-        faults("sight 0i", 7);
-        faults("sight 0A", 7);
-        faults("sight 0`", 7);
-        faults("sight 00", 7);
-        faults("claim 0 a", 7);
-        faults("drop 0", 5);
-        faults("drop i", 5);
-        faults("drop ab", 6);
-        faults("wish 0a", 7);
-        faults("wish 0aa", 7);
-        faults("wish 0a10", 8);
-        faults("cloud 0 /", 8);
-        faults("cloud 0 :", 8);
-        faults("stay 1 12", 8);
-        faults("redeem 12", 8);
-        faults("pound 1;roof 12;dawn;drop x", 26);
-        faults("dawn dawn", 4);
-        faults(" dawn", 0);
-        faults("dawndawn", 4);
+        c.faulty("stat 1 1", 3);
+        c.faulty("rood 1", 3);
+        c.faulty("clod", 3);
+        c.faulty("claud 1 2", 3);
+        c.faulty("dr0p a", 2);
+        c.faulty("dap", 2);
+        c.faulty("pat", 2);
+        c.faulty("poy 1", 2);
+        c.faulty("sta", 3);
+        c.faulty("s", 1);
+        c.faulty("sx", 1);
+        c.faulty("i", 0);
+        c.faulty("star 1", 6);
+        c.faulty("star a 1", 5);
+        c.faulty("star 10 1", 6);
+        c.faulty("star 1 10", 8);
+        c.faulty("star  1 1", 5);
+        c.faulty("roof 123", 7);
+        c.faulty("roof 1 2", 6);
+        c.faulty("roof a", 5);
+        c.faulty("pay 0 123", 8);
+        c.faulty("pay 01 2", 5);
+        c.faulty("sight 0i", 7);
+        c.faulty("sight 0A", 7);
+        c.faulty("sight 0`", 7);
+        c.faulty("sight 00", 7);
+        c.faulty("claim 0 a", 7);
+        c.faulty("drop 0", 5);
+        c.faulty("drop i", 5);
+        c.faulty("drop ab", 6);
+        c.faulty("wish 0a", 7);
+        c.faulty("wish 0aa", 7);
+        c.faulty("wish 0a10", 8);
+        c.faulty("cloud 0 /", 8);
+        c.faulty("cloud 0 :", 8);
+        c.faulty("stay 1 12", 8);
+        c.faulty("redeem 12", 8);
+        c.faulty("pound 1;roof 12;dawn;drop x", 26);
+        c.faulty("dawn dawn", 4);
+        c.faulty(" dawn", 0);
+        c.faulty("dawndawn", 4);
     }
 
     private static void promise17Ends() {
         String full = "dawn;dawn;dawn;dawn;dawn;dawn;dawn;dawn;dawn;dawn;dawn;dawn";
-        faults(full + ";", 60);
-        faults(full + "x", 59);
-        faults("star 9 0;star 9 0;star 9 0;star 9 0;star 9 0;star 9 0;roof ", 59);
+        c.faulty(full + ";", 60);
+        c.faulty(full + "x", 59);
+        c.faulty("star 9 0;star 9 0;star 9 0;star 9 0;star 9 0;star 9 0;roof ", 59);
     }
 
     private static void promise17LatestIsKept() {
@@ -246,29 +240,21 @@ public final class ReadTest {
         c.due("depth 2", x.reason(2, false), BAD);
     }
 
-    private static void behind(StarBailiff x, String text, int number, int reason, int detail) {
-        c.due(text, Checks.read(x, text), REFUSED);
-        c.due("reason of " + text, x.reason(0, false), 13);
-        c.due("detail of " + text, x.reason(0, true), number);
-        c.due("reason behind " + text, x.reason(1, false), reason);
-        c.due("detail behind " + text, x.reason(1, true), detail);
-    }
-
     private static void promise18RefusedCommand() {
-        behind(new StarBailiff(), "cloud 0 0", 0, 2, 0);
-        behind(new StarBailiff(), "dawn;cloud 0 5;cloud 0 5;roof 9", 2, 2, 5);
-        behind(new StarBailiff(), "roof 1;roof 1;roof 1;roof 1;roof 1;roof 1", 5, 1, 5);
+        c.behind(new StarBailiff(), "cloud 0 0", 0, 2, 0);
+        c.behind(new StarBailiff(), "dawn;cloud 0 5;cloud 0 5;roof 9", 2, 2, 5);
+        c.behind(new StarBailiff(), "roof 1;roof 1;roof 1;roof 1;roof 1;roof 1", 5, 1, 5);
         StarBailiff x = prepared();
-        behind(x, "sight 0a", 0, 3, 2);
-        behind(x, "dawn;wish 0a1", 1, 4, 0);
-        behind(x, "dawn;dawn;claim 1c", 2, 5, 0);
-        behind(x, "claim 1b;roof 3;claim 2a", 2, 6, 15);
-        behind(x, "drop c;drop c", 1, 7, 2);
-        behind(x, "pay 0 3;pay 1 3", 1, 8, 0);
-        behind(x, "stay 0 4;pound 0", 1, 9, 4);
-        behind(x, "pound 1", 0, 10, 0);
-        behind(x, "pound 0;pound 0", 1, 11, 1);
-        behind(x, "redeem 0", 0, 12, 0);
+        c.behind(x, "sight 0a", 0, 3, 2);
+        c.behind(x, "dawn;wish 0a1", 1, 4, 0);
+        c.behind(x, "dawn;dawn;claim 1c", 2, 5, 0);
+        c.behind(x, "claim 1b;roof 3;claim 2a", 2, 6, 15);
+        c.behind(x, "drop c;drop c", 1, 7, 2);
+        c.behind(x, "pay 0 3;pay 1 3", 1, 8, 0);
+        c.behind(x, "stay 0 4;pound 0", 1, 9, 4);
+        c.behind(x, "pound 1", 0, 10, 0);
+        c.behind(x, "pound 0;pound 0", 1, 11, 1);
+        c.behind(x, "redeem 0", 0, 12, 0);
         c.refused(x, "a call after it", x.drop(0), 7, 0);
     }
 
@@ -284,13 +270,13 @@ public final class ReadTest {
         }
         StarBailiff x = prepared();
         c.refused(x, "the first that fails", Checks.read(x, "dawn;dawn;drop d;drop a;dawn"), 14, 2);
-        behind(x, "dawn;drop a;drop d", 1, 7, 0);
+        c.behind(x, "dawn;drop a;drop d", 1, 7, 0);
         c.refused(x, "none behind", Checks.read(x, "star 0 0"), 14, 0);
     }
 
     private static void promise18ReasonsStay() {
         StarBailiff x = prepared();
-        behind(x, "dawn;drop a", 1, 7, 0);
+        c.behind(x, "dawn;drop a", 1, 7, 0);
         Checks.read(x, "dxwn");
         x.star(0, 0);
         x.dawn();
