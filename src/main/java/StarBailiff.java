@@ -152,7 +152,7 @@ public final class StarBailiff {
             case 0: return sky.roofs.coins[roof];
             case 1: return sky.roofs.stay[roof];
             case 2: return sky.wishes.countOf(roof);
-            case 3: return Integer.bitCount(sky.wishes.impoundedOf(roof));
+            case 3: return Integer.bitCount(sky.wishes.impoundedSetOf(roof));
             case 4: return sky.roofs.granted[roof];
             case 5: return sky.roofs.forfeited[roof];
             case 6: return sky.stars.countClaimedBy(roof);
@@ -834,8 +834,7 @@ public final class StarBailiff {
             return count - countAlike(impounded, count, NOTHING);
         }
 
-        /** Returns the impounded wishes of a roof as a set. */
-        int impoundedOf(int ofRoof) {
+        int impoundedSetOf(int ofRoof) {
             int set = 0;
             for (int wish = 0; wish < count; wish++) {
                 if (roof[wish] == ofRoof && isImpounded(wish)) {
@@ -1112,7 +1111,7 @@ public final class StarBailiff {
 
         int countRedeemable(int roof) {
             int left = roofs.coins[roof];
-            int open = wishes.impoundedOf(roof);
+            int open = wishes.impoundedSetOf(roof);
             for (int redeemed = 0; redeemed < MOST_WISHES; redeemed++) {
                 int wish = cheapestWish(open);
                 if (wish == NOTHING || costToRedeem(wish) > left) {
@@ -1136,7 +1135,7 @@ public final class StarBailiff {
         }
 
         int countRedeemableByTrying(int roof) {
-            int all = wishes.impoundedOf(roof);
+            int all = wishes.impoundedSetOf(roof);
             int most = 0;
             for (int set = 0; set <= all; set++) {
                 if ((set & ~all) == 0 && costOfSet(set) <= roofs.coins[roof]) {
